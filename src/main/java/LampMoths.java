@@ -497,12 +497,8 @@ public final class LampMoths {
     /** Does to the trial lane what two figures tell; false, if it can not be. */
     private boolean didOnTrial(int doing, int figure) {
         switch (doing) {
-            case 0:
-                if (figure != 0) {
-                    return false;
-                }
-                trial.passNight();
-                return true;
+            // A night can always be, and whether another doing can be does not hang on it.
+            case 0: return figure == 0;
             case 1: return trial.turn(figure, 1);
             case 2: return trial.turn(figure, -1);
             case 3: return blewOnTrial(figure);

@@ -35,6 +35,8 @@ public final class ChancesTest {
         rests("L19W062W160M00", 0, NONE, NONE);
         // One that is dark now has 5 when it "burns as now", for it owes nothing.
         rests("L19W000W850M80", 1, 10, 1);
+        // Three share one: each has 3 of 5 then, as in the dark beside one of 6 or more; like much is no more.
+        rests("L19W060W170W280M00", 2, 10, 1);
         // Window 1 reads in the dark by window 2, which is neither of the two: 3 against 2.
         rests("L19W020W742W860M70", 1, 11, 11);
         rests("L19W020W772W860M70", 1, 10, 1);
@@ -179,6 +181,9 @@ public final class ChancesTest {
         for (int n = 0; n < 30; n++) {
             paid += y.weeks(1);
         }
+        y.night();
+        y.seed(seedFor(13, 19));
+        DUE.is("what was paid before is no part of it", y.weeks(2), 12);
         DUE.holds("some weeks are nights: " + paid, paid > 0 && paid % 6 == 0);
     }
 }

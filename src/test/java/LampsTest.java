@@ -28,6 +28,7 @@ public final class LampsTest {
         DUE.is("dim(3, 0)", x.dim(3, 0), LampMoths.UNKNOWN);
         DUE.is("dim(-1, 0)", x.dim(-1, 0), LampMoths.UNKNOWN);
         DUE.is("UNKNOWN is told ahead of BAD", x.dim(3, 100), LampMoths.UNKNOWN);
+        DUE.is("dim by nine turns", Due.streetOf("L19W090M00").dim(0, 5), 9);
         LampMoths dark = Due.streetOf("L19W000M00");
         DUE.is("dim of a dark one", dark.dim(0, 0), 0);
         LampMoths green = Due.streetOf("L19W041W340M01");
