@@ -1,6 +1,17 @@
+import java.io.IOException;
+import java.io.UncheckedIOException;
+import java.nio.file.Files;
+import java.nio.file.Path;
+
 /** Compares answers with those that are due, and ends a test with the exit code that .ci/run looks at. */
 final class Due {
+    private static final Path DOCUMENT = Path.of("../shared/DOC.md");
+    private static final int MOST_TOLD = 40;
+
     private final String test;
+    private String document = null;
+    private String sentence = "";
+    private int checkedOfSentence = 1;
     private int checked = 0;
     private int wrong = 0;
 
@@ -8,13 +19,53 @@ final class Due {
         this.test = test;
     }
 
+    /** What follows looks at these words of the document; a sentence that nothing looks at is a fault of the test. */
+    void sentence(String words) {
+        endSentence();
+        sentence = " [" + words + "]";
+        checkedOfSentence = 0;
+        if (!document().contains(words)) {
+            tellWrong("the document has no such words" + sentence);
+        }
+    }
+
+    private void endSentence() {
+        if (checkedOfSentence == 0) {
+            tellWrong("nothing looks at" + sentence);
+        }
+    }
+
+    private String document() {
+        if (document == null) {
+            try {
+                document = Files.readString(DOCUMENT).replaceAll("\\s+", " ");
+            } catch (IOException e) {
+                throw new UncheckedIOException(e);
+            }
+        }
+        return document;
+    }
+
     void is(String call, long got, long want) {
         checked++;
+        checkedOfSentence++;
         if (got != want) {
-            wrong++;
-            if (wrong <= 40) {
-                System.out.println(test + ": " + call + " answered " + got + ", due is " + want);
-            }
+            tellWrong(call + " answered " + got + ", due is " + want + sentence);
+        }
+    }
+
+    void same(String what, String got, String want) {
+        checked++;
+        checkedOfSentence++;
+        if (!got.equals(want)) {
+            tellWrong(what + ": is " + got + ", due is " + want + sentence);
+        }
+    }
+
+    private void tellWrong(String what) {
+        wrong++;
+        if (wrong <= MOST_TOLD) {
+            System.out.println(test + ": " + what);
         }
     }
 
@@ -23,6 +74,7 @@ final class Due {
     }
 
     void end() {
+        endSentence();
         System.out.println(test + ": " + checked + " answers looked at, " + wrong + " not as due");
         if (wrong != 0 || checked == 0) {
             System.exit(1);
@@ -57,12 +109,14 @@ final class Due {
                 all.append(x.about(what)).append(' ');
             }
         }
-        for (int window = 0; window < x.about(0); window++) {
+        int windows = x.about(0);
+        for (int window = 0; window < windows; window++) {
             for (int what = 0; what <= 6; what++) {
                 all.append(x.window(window, what)).append(' ');
             }
         }
-        for (int moth = 0; moth < x.about(1); moth++) {
+        int moths = x.about(1);
+        for (int moth = 0; moth < moths; moth++) {
             for (int what = 0; what <= 3; what++) {
                 all.append(x.moth(moth, what)).append(' ');
             }

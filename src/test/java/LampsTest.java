@@ -86,63 +86,62 @@ public final class LampsTest {
         moving("L19W040W150W260W370W680M01", 44, 15);
     }
 
-    private static void judge(LampMoths x, int n, int row, int want) {
+    private static void judge(int n, int row, int want) {
+        LampMoths x = Due.streetOf("L14W080W310M20");
         String before = Due.seen(x);
         DUE.is("judge(" + n + ", " + row + ")", x.judge(n, row), want);
         DUE.holds("judge changes nothing", before.equals(Due.seen(x)));
     }
 
     private static void judges() {
-        LampMoths x = Due.streetOf("L14W080W310M20");
-        judge(x, 1, 0, NONE);
-        judge(x, 4, 0, NONE);
-        judge(x, 1, 1, 0);
-        judge(x, 1, 9, 0);
-        judge(x, 2, 1, 1);
-        judge(x, 1, 10, NONE);
-        judge(x, 2, 1010, 1);
-        judge(x, 3, 102010, NONE);
-        judge(x, 1, 12, 0);
-        judge(x, 1, 19, 0);
-        judge(x, 1, 21, NONE);
-        judge(x, 2, 2121, 1);
-        judge(x, 3, 211121, NONE);
-        judge(x, 1, 22, 0);
-        judge(x, 1, 30, NONE);
-        judge(x, 1, 31, 0);
-        judge(x, 1, 32, NONE);
-        judge(x, 1, 33, 0);
-        judge(x, 2, 3031, NONE);
-        judge(x, 2, 3030, 1);
-        judge(x, 1, 44, 0);
-        judge(x, 1, 49, NONE);
-        judge(x, 1, 40, NONE);
-        judge(x, 2, 4949, 1);
-        judge(x, 2, 4044, NONE);
-        judge(x, 1, 50, 0);
-        judge(x, 1, 99, 0);
-        judge(x, 4, 99999999, 0);
-        judge(x, 4, 10303149, NONE);
-        judge(x, 4, 10303131, 3);
-        judge(x, 4, 10, NONE);
-        judge(x, 3, 1010, 2);
+        judge(1, 0, NONE);
+        judge(4, 0, NONE);
+        judge(1, 1, 0);
+        judge(1, 9, 0);
+        judge(2, 1, 1);
+        judge(1, 10, NONE);
+        judge(2, 1010, 1);
+        judge(3, 102010, NONE);
+        judge(1, 12, 0);
+        judge(1, 19, 0);
+        judge(1, 21, NONE);
+        judge(2, 2121, 1);
+        judge(3, 211121, NONE);
+        judge(1, 22, 0);
+        judge(1, 30, NONE);
+        judge(1, 31, 0);
+        judge(1, 32, NONE);
+        judge(1, 33, 0);
+        judge(2, 3031, NONE);
+        judge(2, 3030, 1);
+        judge(1, 44, 0);
+        judge(1, 49, NONE);
+        judge(1, 40, NONE);
+        judge(2, 4949, 1);
+        judge(2, 4044, NONE);
+        judge(1, 50, 0);
+        judge(1, 99, 0);
+        judge(4, 99999999, 0);
+        judge(4, 10303149, NONE);
+        judge(4, 10303131, 3);
+        judge(4, 10, NONE);
+        judge(3, 1010, 2);
     }
 
     private static void judgesRefused() {
-        LampMoths x = Due.streetOf("L14W080W310M20");
-        judge(x, 0, 0, LampMoths.BAD);
-        judge(x, 5, 0, LampMoths.BAD);
-        judge(x, -1, 0, LampMoths.BAD);
-        judge(x, Integer.MAX_VALUE, 0, LampMoths.BAD);
-        judge(x, 1, -1, LampMoths.BAD);
-        judge(x, 1, 100, LampMoths.BAD);
-        judge(x, 2, 10000, LampMoths.BAD);
-        judge(x, 2, 9999, 0);
-        judge(x, 3, 1000000, LampMoths.BAD);
-        judge(x, 3, 999999, 0);
-        judge(x, 4, 100000000, LampMoths.BAD);
-        judge(x, 4, Integer.MAX_VALUE, LampMoths.BAD);
-        judge(x, 4, Integer.MIN_VALUE, LampMoths.BAD);
+        judge(0, 0, LampMoths.BAD);
+        judge(5, 0, LampMoths.BAD);
+        judge(-1, 0, LampMoths.BAD);
+        judge(Integer.MAX_VALUE, 0, LampMoths.BAD);
+        judge(1, -1, LampMoths.BAD);
+        judge(1, 100, LampMoths.BAD);
+        judge(2, 10000, LampMoths.BAD);
+        judge(2, 9999, 0);
+        judge(3, 1000000, LampMoths.BAD);
+        judge(3, 999999, 0);
+        judge(4, 100000000, LampMoths.BAD);
+        judge(4, Integer.MAX_VALUE, LampMoths.BAD);
+        judge(4, Integer.MIN_VALUE, LampMoths.BAD);
     }
 
     private static void share(String text, int window, int above, int below) {

@@ -124,9 +124,8 @@ public final class StreetTest {
         fault("L19" + five + six + "M", 41);
         fault("L19" + five + six + "000000000000000", 41);
         fault("X19" + five + six + "000000000000000", 0);
-        LampMoths x = new LampMoths();
         for (int letter = 0; letter < 256; letter++) {
-            x.wipe();
+            LampMoths x = new LampMoths();
             x.write(letter);
             DUE.is("fault of the byte " + letter, x.fault(), letter == 'L' ? 1 : 0);
         }

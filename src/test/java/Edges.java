@@ -1,0 +1,124 @@
+/** What the tests of boundary cases share: objects in chosen states, and a look at all that an object holds. */
+final class Edges {
+    /** Numbers at, and one beyond, the bounds that the document names, and the ends of the range. */
+    static final int[] INTS = {
+        Integer.MIN_VALUE, Integer.MIN_VALUE + 1, -256, -10, -9, -4, -3, -2, -1, 0, 1, 2, 3, 4, 5, 6, 7, 8, 9, 10, 11,
+        14, 15, 30, 31, 56, 57, 99, 100, 255, 256, Integer.MAX_VALUE - 1, Integer.MAX_VALUE};
+
+    static final String FIVE_WINDOWS = "W053W242W391W580W760";
+    static final String SIX_MOTHS = "M03M21M52M73M81M40";
+    /** The longest street that there can be: 41 bytes. */
+    static final String LONGEST = "L15" + FIVE_WINDOWS + SIX_MOTHS;
+
+    /** Five windows at PLACES 0 .. 4 that pull alike on a moth at PLACE 0: the first so many of them. */
+    private static final String[] ALIKE = {"W040", "W150", "W260", "W370", "W480"};
+
+    private Edges() {
+    }
+
+    /** A call, with its arguments. */
+    interface Call {
+        long on(LampMoths x);
+    }
+
+    /** A way to make an object anew in one state: what is done to one is not seen in the next. */
+    interface Made {
+        LampMoths anew();
+    }
+
+    static String alike(int windows) {
+        StringBuilder all = new StringBuilder();
+        for (int window = 0; window < windows; window++) {
+            all.append(ALIKE[window]);
+        }
+        return all.toString();
+    }
+
+    static boolean isIn(int number, int least, int most) {
+        return number >= least && number <= most;
+    }
+
+    /** Five windows, six moths, some of everything; its text is another street than the one that stands. */
+    static LampMoths busy() {
+        LampMoths x = Due.streetOf(LONGEST);
+        x.night();
+        x.keep(0);
+        x.up(1);
+        x.keep(1);
+        x.move(7);
+        x.count(0, 1, 6);
+        x.count(1, 1, 9);
+        x.seed(77);
+        Due.tell(x, "L02W820M73");
+        return x;
+    }
+
+    /** Every row is full: 56 bytes, 14 acts, 6 counted, both slots. */
+    static LampMoths brim() {
+        LampMoths x = Due.streetOf("L19W090W802M13M81");
+        x.keep(0);
+        for (int act = 0; act < 7; act++) {
+            x.night();
+            x.move(act);
+        }
+        x.keep(1);
+        for (int n = 0; n < 6; n++) {
+            x.count(n % 2, n % 3, n % 2 == 0 ? 6 : 0);
+        }
+        x.seed(Long.MIN_VALUE);
+        x.wipe();
+        for (int n = 0; n < 56; n++) {
+            x.write("L19M00".charAt(Math.min(n, 5)));
+        }
+        return x;
+    }
+
+    static LampMoths fresh() {
+        return new LampMoths();
+    }
+
+    /** All that an object holds, told by going through all of it: nothing else can be asked of it behind this. */
+    static String whole(LampMoths x) {
+        StringBuilder all = new StringBuilder(Due.seen(x));
+        all.append("; seed ").append(x.seed(0));
+        for (int left = x.undo(); left >= 0; left = x.undo()) {
+            all.append("; undo ").append(left).append(':').append(standing(x));
+        }
+        for (int slot = 0; slot < 2; slot++) {
+            all.append("; again ").append(x.again(slot)).append(':').append(standing(x));
+        }
+        all.append("; street ").append(x.street()).append(": ").append(Due.seen(x));
+        return all.toString();
+    }
+
+    /** What an act may change. */
+    private static String standing(LampMoths x) {
+        StringBuilder all = new StringBuilder();
+        for (int what = 2; what <= 5; what++) {
+            all.append(' ').append(x.about(what));
+        }
+        int windows = x.about(0);
+        for (int window = 0; window < windows; window++) {
+            all.append(' ').append(x.window(window, 1));
+        }
+        int moths = x.about(1);
+        for (int moth = 0; moth < moths; moth++) {
+            all.append(' ').append(x.moth(moth, 0));
+        }
+        return all.toString();
+    }
+
+    /** The call answers that, and the object is behind it as a twin that was not asked. */
+    static void leaves(Due due, String call, Made made, Call asked, long want) {
+        LampMoths x = made.anew();
+        due.is(call, asked.on(x), want);
+        due.same(call + " changes nothing", whole(x), whole(made.anew()));
+    }
+
+    /** The same, with an object that has some of everything, one with every row full, and a new one. */
+    static void leavesAll(Due due, String call, Call asked, long want) {
+        leaves(due, call + " of a busy one", Edges::busy, asked, want);
+        leaves(due, call + " of a full one", Edges::brim, asked, want);
+        leaves(due, call + " of a new one", Edges::fresh, asked, want);
+    }
+}
