@@ -24,7 +24,8 @@ final class Due {
         endSentence();
         sentence = " [" + words + "]";
         checkedOfSentence = 0;
-        if (!document().contains(words)) {
+        // Only the words are looked up: without the document at hand the answers are looked at all the same.
+        if (Files.isReadable(DOCUMENT) && !document().contains(words)) {
             tellWrong("the document has no such words" + sentence);
         }
     }

@@ -19,6 +19,7 @@ public final class EdgeActsTest {
         nightIsOneMore();
         undoLate();
         undoesTheLast();
+        undoesAllOfANight();
         firstIsForgotten();
         fullRowOfEachKind();
         refusedIsNoAct();
@@ -277,6 +278,29 @@ public final class EdgeActsTest {
             DUE.is("undo", x.undo(), 3);
             DUE.same("all is as ahead of the act " + act, Edges.whole(x), Edges.whole(Edges.busy()));
         }
+    }
+
+    private static void undoesAllOfANight() {
+        DUE.sentence("the last one can be undone.");
+        LampMoths x = Edges.astir();
+        int[] seats = {1, 3, 5, 7, 1, 7};
+        DUE.is("night", x.night(), 36);
+        for (int moth = 0; moth < 6; moth++) {
+            DUE.is("moth " + moth + " has gone", x.moth(moth, 0), seats[moth] - 1);
+        }
+        int[] paid = {6, 9, 6, 9, 6};
+        for (int window = 0; window < 5; window++) {
+            DUE.is("window " + window + " has paid", x.window(window, 4), paid[window]);
+        }
+        DUE.is("undo", x.undo(), 0);
+        for (int moth = 0; moth < 6; moth++) {
+            DUE.is("moth " + moth + " is back", x.moth(moth, 0), seats[moth]);
+        }
+        for (int window = 0; window < 5; window++) {
+            DUE.is("window " + window + " has paid nothing", x.window(window, 4), 0);
+        }
+        DUE.is("the night", x.about(4), 0);
+        DUE.is("all have paid nothing", x.about(5), 0);
     }
 
     private static void firstIsForgotten() {

@@ -38,6 +38,7 @@ public final class EdgeChancesTest {
         weeksPaidMore();
         weeksChangeTheSeedAlone();
         nothingIsChanged();
+        asTheStreetIsNow();
         DUE.end();
     }
 
@@ -118,6 +119,9 @@ public final class EdgeChancesTest {
         rests("L19W050W850", 1, 1, 11, 11);
         rests("L19W050W450M20", 1, 2, 0, 0);
         rests("L19W180W270W810M80", 1, 3, 1, 1);
+        // One that does not burn at all draws nothing: the other owes for the moth that sits beside the dark one.
+        rests("L19W050W450M00", 1, 1, 0, 0);
+        rests("L19W450W050M00", 1, 1, 0, 0);
     }
 
     private static void restsLikeMuchIsNoMore() {
@@ -448,6 +452,26 @@ public final class EdgeChancesTest {
             for (int call = 0; call < asked.length; call++) {
                 Edges.leaves(DUE, "question " + call, made, asked[call], asked[call].on(made.anew()));
             }
+        }
+    }
+
+    private static void asTheStreetIsNow() {
+        DUE.sentence("RESTS of two WINDOWS: each burns as now (1), or not at all (0)");
+        for (int n = 0; n < 2; n++) {
+            int what = n;
+            boolean upper = n == 0;
+            Edges.answersAsNow(DUE, "rests", x -> x.rests(0, 1, what));
+            Edges.answersAsNow(DUE, "rests", x -> x.rests(1, 0, what));
+            for (int sum = 0; sum <= 99; sum++) {
+                int t = sum;
+                Edges.answersAsNow(DUE, "clouds", x -> x.clouds(t, 3, upper));
+            }
+        }
+        for (long seed : LONGS) {
+            Edges.answersAsNow(DUE, "weeks", x -> {
+                x.seed(seed);
+                return x.weeks(30);
+            });
         }
     }
 }

@@ -18,6 +18,7 @@ public final class EdgeHoneyTest {
         asAllBurnAndSitNow();
         windowsThatAreGone();
         nothingIsChanged();
+        asTheStreetIsNow();
         DUE.end();
     }
 
@@ -248,6 +249,21 @@ public final class EdgeHoneyTest {
         DUE.sentence("In what follows nothing is changed.");
         for (Edges.Made made : new Edges.Made[] {Edges::busy, Edges::brim, Edges::fresh}) {
             Edges.leaves(DUE, "honeys", made, LampMoths::honeys, made.anew().honeys());
+        }
+    }
+
+    private static void asTheStreetIsNow() {
+        DUE.sentence("as all burn and sit now, but for HONEY, with a WIND w");
+        for (int window = 0; window < 2; window++) {
+            for (int sum = 0; sum <= 30; sum++) {
+                int which = window;
+                int t = sum;
+                Edges.answersAsNow(DUE, "honeys", x -> {
+                    x.forget();
+                    x.count(which, 1, t);
+                    return x.honeys();
+                });
+            }
         }
     }
 }

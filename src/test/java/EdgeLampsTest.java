@@ -28,6 +28,7 @@ public final class EdgeLampsTest {
         shareLessThanZero();
         shareInLeastTerms();
         nothingIsChanged();
+        asTheStreetIsNow();
         DUE.end();
     }
 
@@ -207,6 +208,8 @@ public final class EdgeLampsTest {
         // The last window draws the moth from everywhere but the last place, and from everywhere but the first.
         moving("L19W000W100W200W300W440M40", 48, 0);
         moving("L19W800W700W600W500W440M40", 40, 0);
+        // Window 1 beside the silk moth alone owes nothing, if window 0 is still where it draws nothing.
+        moving("L19W010W810W100W200W300M80M40M50M62M70", 16, 0);
         // It would be least at 8, or at 0, but there another window is.
         moving("L19W080W800M01", 1, 18);
         moving("L19W880W000M81", 1, 18);
@@ -392,6 +395,25 @@ public final class EdgeLampsTest {
             for (int call = 0; call < asked.length; call++) {
                 Edges.leaves(DUE, "question " + call, made, asked[call], asked[call].on(made.anew()));
             }
+        }
+    }
+
+    private static void asTheStreetIsNow() {
+        DUE.sentence("OWES: what it owes now; all together.");
+        for (int n = 0; n < 2; n++) {
+            int window = n;
+            boolean upper = n == 0;
+            Edges.answersAsNow(DUE, "dim", x -> x.dim(window, 0));
+            Edges.answersAsNow(DUE, "cheap", x -> x.cheap(upper));
+            Edges.answersAsNow(DUE, "moving", x -> x.moving(window));
+            Edges.answersAsNow(DUE, "judge", x -> x.judge(1, 10 + window));
+            Edges.answersAsNow(DUE, "judge", x -> x.judge(2, 4746 + 1000 * window));
+            Edges.answersAsNow(DUE, "share", x -> x.share(0, upper));
+            Edges.answersAsNow(DUE, "share", x -> x.share(1, upper));
+        }
+        for (int doing = 0; doing < 100; doing++) {
+            int row = doing;
+            Edges.answersAsNow(DUE, "judge", x -> x.judge(1, row));
         }
     }
 }

@@ -8,6 +8,7 @@ public final class EdgeSlotsTest {
         againLate();
         eachForItself();
         whatIsKept();
+        keepsAllOfANight();
         noActsWhenOneGoesOn();
         keptMoreThanOnce();
         keptIsGone();
@@ -99,13 +100,32 @@ public final class EdgeSlotsTest {
                 DUE.same("all is as it was kept", Due.seenButActs(x), before);
             }
         }
-        LampMoths x = Edges.busy();
-        int paid = x.window(3, 4);
-        x.keep(0);
-        x.night();
-        DUE.holds("window 3 has paid more", x.window(3, 4) > paid);
-        x.again(0);
-        DUE.is("window 3 has paid as then", x.window(3, 4), paid);
+    }
+
+    private static void keepsAllOfANight() {
+        DUE.sentence("keep how all burn, where MOTHS sit, WIND, HONEY, what was PAID, THE NIGHT");
+        for (int slot = 0; slot <= 1; slot++) {
+            LampMoths x = Edges.astir();
+            int[] seats = {1, 3, 5, 7, 1, 7};
+            int[] paid = {6, 9, 6, 9, 6};
+            DUE.is("keep", x.keep(slot), 0);
+            x.night();
+            DUE.is("keep in the other", x.keep(1 - slot), 1);
+            DUE.is("again", x.again(slot), 0);
+            for (int moth = 0; moth < 6; moth++) {
+                DUE.is("moth " + moth + " is back", x.moth(moth, 0), seats[moth]);
+            }
+            for (int window = 0; window < 5; window++) {
+                DUE.is("window " + window + " has paid nothing", x.window(window, 4), 0);
+            }
+            DUE.is("again with the other", x.again(1 - slot), 1);
+            for (int moth = 0; moth < 6; moth++) {
+                DUE.is("moth " + moth + " has gone", x.moth(moth, 0), seats[moth] - 1);
+            }
+            for (int window = 0; window < 5; window++) {
+                DUE.is("window " + window + " has paid", x.window(window, 4), paid[window]);
+            }
+        }
     }
 
     private static void noActsWhenOneGoesOn() {

@@ -355,17 +355,27 @@ public final class EdgeTextTest {
 
     private static void madeAnew() {
         DUE.sentence("When THE STREET is made anew, THE NIGHT is 0, nobody has PAID.");
-        LampMoths x = Due.streetOf(Edges.LONGEST);
-        x.night();
-        x.night();
-        DUE.holds("all have paid", x.about(5) > 0);
-        DUE.is("street", x.street(), 56);
-        DUE.is("the night", x.about(4), 0);
-        DUE.is("paid", x.about(5), 0);
-        for (int window = 0; window < 5; window++) {
-            DUE.is("paid by " + window, x.window(window, 4), 0);
+        Edges.Call[] asked = {LampMoths::fault, x -> x.dim(0, 0), x -> x.cheap(true), x -> x.moving(0),
+            x -> x.judge(4, 0), x -> x.share(0, true), LampMoths::honeys, x -> x.rests(0, 1, 0),
+            x -> x.clouds(5, 5, true), x -> x.weeks(30)};
+        for (int call = 0; call < asked.length; call++) {
+            LampMoths x = Edges.astir();
+            x.night();
+            x.night();
+            // What is asked ahead of it leaves nothing behind that the new street could take up.
+            asked[call].on(x);
+            x.seed(0);
+            for (int window = 0; window < 5; window++) {
+                DUE.holds("window " + window + " has paid", x.window(window, 4) > 0);
+            }
+            DUE.is("street", x.street(), 56);
+            DUE.is("the night", x.about(4), 0);
+            DUE.is("paid", x.about(5), 0);
+            for (int window = 0; window < 5; window++) {
+                DUE.is("paid by " + window, x.window(window, 4), 0);
+            }
+            DUE.same("it is as told", Edges.whole(x), Edges.whole(Edges.astir()));
         }
-        DUE.same("it is as told", Edges.whole(x), Edges.whole(Due.streetOf(Edges.LONGEST)));
     }
 
     private static void noActsNothingKept() {

@@ -77,6 +77,34 @@ final class Edges {
         return new LampMoths();
     }
 
+    /** All moths fly in a night of this one, and all windows pay. */
+    static LampMoths astir() {
+        return Due.streetOf("L19W030W230W430W630W830M10M30M50M70M10M70");
+    }
+
+    /** A new object whose street is told as that of the other one is now. */
+    static LampMoths retold(LampMoths x) {
+        StringBuilder text = new StringBuilder("L").append(x.about(2)).append(x.about(3));
+        int windows = x.about(0);
+        for (int window = 0; window < windows; window++) {
+            text.append('W').append(x.window(window, 0)).append(x.window(window, 1)).append(x.window(window, 2));
+        }
+        int moths = x.about(1);
+        for (int moth = 0; moth < moths; moth++) {
+            text.append('M').append(x.moth(moth, 0)).append(x.moth(moth, 1));
+        }
+        return Due.streetOf(text.toString());
+    }
+
+    /** Behind acts, and behind a look at another text, the call answers as of a street that is told so. */
+    static void answersAsNow(Due due, String call, Call asked) {
+        for (Made made : new Made[] {Edges::busy, Edges::brim}) {
+            LampMoths x = made.anew();
+            x.fault();
+            due.is(call + " of the street as it is", asked.on(x), asked.on(retold(made.anew())));
+        }
+    }
+
     /** All that an object holds, told by going through all of it: nothing else can be asked of it behind this. */
     static String whole(LampMoths x) {
         StringBuilder all = new StringBuilder(Due.seen(x));
