@@ -30,6 +30,7 @@ public final class EdgeTextTest {
         streetAnswers();
         numberedAsTold();
         madeAnew();
+        nothingOfALongerOne();
         noActsNothingKept();
         countedAndSeedStay();
         DUE.end();
@@ -375,6 +376,21 @@ public final class EdgeTextTest {
                 DUE.is("paid by " + window, x.window(window, 4), 0);
             }
             DUE.same("it is as told", Edges.whole(x), Edges.whole(Edges.astir()));
+        }
+    }
+
+    private static void nothingOfALongerOne() {
+        DUE.sentence("THE TEXT is THE STREET");
+        String[] texts = {"L19", "L19W050", "L19M00", "L05W053M03", "L19W052W450M20", "L19W092W150W250M01",
+            "L28W092W150W250W450M01M13M30", Edges.LONGEST};
+        for (String text : texts) {
+            LampMoths x = Due.streetOf("L05W092W181W273W360W452M01M11M21M31M41M53");
+            Edges.answers(x);
+            x.night();
+            Due.tell(x, text);
+            x.street();
+            DUE.same("answers of " + text, Edges.answers(x), Edges.answers(Due.streetOf(text)));
+            DUE.same("all of " + text, Edges.whole(x), Edges.whole(Due.streetOf(text)));
         }
     }
 

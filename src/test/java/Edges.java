@@ -119,6 +119,25 @@ final class Edges {
         return all.toString();
     }
 
+    /** What each question answers of a street, for every window there may be; the seed is 0 behind it. */
+    static String answers(LampMoths x) {
+        StringBuilder all = new StringBuilder();
+        for (int window = 0; window < 5; window++) {
+            all.append(' ').append(x.dim(window, 0)).append(' ').append(x.dim(window, 9));
+            all.append(' ').append(x.share(window, true)).append(' ').append(x.share(window, false));
+            all.append(' ').append(x.rests(window, (window + 1) % 5, 0));
+            all.append(' ').append(x.rests(window, (window + 1) % 5, 1));
+        }
+        all.append("; ").append(x.cheap(false)).append(' ').append(x.cheap(true));
+        all.append("; ").append(x.moving(0)).append(' ').append(x.moving(1));
+        all.append("; ").append(x.judge(4, 13243048));
+        for (int t = 0; t < 40; t += 3) {
+            all.append(' ').append(x.clouds(t, 3, true)).append('/').append(x.clouds(t, 3, false));
+        }
+        x.seed(1);
+        return all.append("; ").append(x.weeks(30)).append(' ').append(x.seed(0)).toString();
+    }
+
     /** What an act may change. */
     private static String standing(LampMoths x) {
         StringBuilder all = new StringBuilder();
